@@ -18,6 +18,7 @@ public final class PromisesTest {
         faultNumbers();
         faultByTheHouse();
         faultByClauses();
+        faultAtTheEnd();
         house();
         houseBeginsAsTold();
         person();
@@ -113,6 +114,8 @@ public final class PromisesTest {
         dueFault("clean clean", 6);
         dueFault("clean 1", 6);
         dueFault("cleaner", 0);
+        dueFault("cleanz", 0);
+        dueFault("cleana", 0);
         dueFault("clea", 0);
         dueFault("Clean", 0);
         dueFault("clean.", 5);
@@ -174,6 +177,25 @@ public final class PromisesTest {
         dueFault(fourteen + ";", 83);
         dueFault(fourteen + ";clean", 83);
         dueFault(fourteen + "x", 78);
+    }
+
+    /** What was written ahead of an erase, or fills the text to its end, is not read as more of it. */
+    private static void faultAtTheEnd() {
+        BanisterWord x = new BanisterWord();
+        dueFaultIn(x, "guest 555", 6);
+        dueFaultIn(x, "guest 5", NONE);
+        dueFaultIn(x, "cleans", 0);
+        dueFaultIn(x, "clean", NONE);
+        dueFaultIn(x, "clean x", 6);
+        dueFaultIn(x, "clean ", NONE);
+        dueFault(" ".repeat(160), 160);
+        dueFault("clean" + " ".repeat(155), NONE);
+        dueFault(" ".repeat(155) + "clean", NONE);
+        dueFault(" ".repeat(153) + "guest 5", NONE);
+        dueFault(" ".repeat(154) + "clean;", 160);
+        dueFault(" ".repeat(155) + "guest", 160);
+        dueFault("a".repeat(160), 0);
+        dueFault("guest " + "1".repeat(154), 6);
     }
 
     // Promise 5
@@ -360,6 +382,11 @@ public final class PromisesTest {
     // Promise 11
     private static void polish() {
         BanisterWord x = Checks.house(SIX + ";word 0 1 1 1;word 0 0 2 3;word 3 1 3 2");
+        BanisterWord y = Checks.house("stair 12;word 0 1 1 1;word 1 0 2 3;word 1 1 2 4;word 2 0 3 2;word 11 1 1 1");
+        due("11: between others", y.polish(1), 2);
+        dueRail("11: below stays", y, 0, 1, 1, 1);
+        dueRail("11: above stays", y, 2, 0, 3, 2);
+        due("11: the highest", y.polish(11), 1);
         due("11: two", x.polish(0), 2);
         due("11: one", x.polish(3), 1);
         due("11: none", x.polish(0), 0);
@@ -469,6 +496,9 @@ public final class PromisesTest {
         due("16: nobody knows", x.count(5), 0);
         x.up(0, 0);
         due("16: by going up now", x.hears(0, 2), 1 << 2);
+        BanisterWord y = Checks.house("guest 1;word 0 1 3 1;word 1 1 3 1;word 2 1 3 1;word 3 1 3 1");
+        due("16: twice", y.hears(0, 1), 1 << 3);
+        due("16: four times", y.up(0, 7), 1 << 3);
         due("16: nobody", x.hears(6, 0), UNKNOWN);
         for (int step : NO_STEP) {
             due("16: step " + step, x.hears(0, step), UNKNOWN);
@@ -506,6 +536,10 @@ public final class PromisesTest {
         due("18: maid", x.send(2, 3), 0);
         due("18: a child alone", x.send(5, 4), NONE);
         due("18: nothing changes", x.count(4), 8);
+        BanisterWord y = Checks.house("child 1;guest 1;child 9;word 0 0 1 1;word 7 0 2 2");
+        due("18: the first", y.send(2, 1), 1);
+        due("18: another child", y.send(0, 1), 1 << 2);
+        due("18: not himself twice", y.send(0, 2), NONE);
         due("18: nobody", x.send(6, 1), UNKNOWN);
         for (int saying : NO_SAYING) {
             due("18: saying " + saying, x.send(1, saying), UNKNOWN);
@@ -656,6 +690,10 @@ public final class PromisesTest {
         for (int what = 0; what < want.length; what++) {
             due("25: count(" + what + ")", x.count(what), want[what]);
         }
+        BanisterWord y = Checks.house("stair 12;word 0 0 3 2;word 11 1 6 5");
+        due("25: rails of both ends", y.count(3), 2);
+        due("25: firm of both ends", y.count(4), 7);
+        due("25: sayings of both ends", y.count(6), 1 << 3 | 1 << 6);
         for (int what : new int[] {-1, 10, Integer.MIN_VALUE, Integer.MAX_VALUE}) {
             due("25: count(" + what + ")", x.count(what), OUTSIDE);
         }
