@@ -49,8 +49,7 @@ public final class PromisesTest {
     }
 
     private static void dueRail(String what, BanisterWord x, int step, int height, int saying, int firm) {
-        due(what + ", saying", x.rail(step, height, 0), saying);
-        due(what + ", firm", x.rail(step, height, 1), firm);
+        checks.dueRail(what, x, step, height, saying, firm);
     }
 
     // Promise 1
