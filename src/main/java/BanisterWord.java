@@ -242,7 +242,8 @@ public final class BanisterWord {
         int needed = one.feels() ? now.rails.firmest(saying, one.handHeight()) : 0;
         int sent = 0;
         for (int i = 0; i < peopleCount && needed > 0; i++) {
-            if (i != person && people[i].feels() && people[i].handHeight() == one.handHeight()) {
+            Person other = personAt(i);
+            if (other != null && i != person && other.feels() && other.handHeight() == one.handHeight()) {
                 sent |= 1 << i;
                 needed--;
             }
@@ -260,7 +261,8 @@ public final class BanisterWord {
         int firm = now.rails.firmAt(step, height);
         int able = 0;
         for (int i = 0; i < peopleCount; i++) {
-            if (people[i].handHeight() == height && people[i].firmness() >= firm) {
+            Person one = personAt(i);
+            if (one != null && one.handHeight() == height && one.firmness() >= firm) {
                 able |= 1 << i;
             }
         }
@@ -310,7 +312,8 @@ public final class BanisterWord {
         }
         int speakers = 0;
         for (int i = 0; i < peopleCount; i++) {
-            if (fitsSights(people[i], step, saying)) {
+            Person one = personAt(i);
+            if (one != null && fitsSights(one, step, saying)) {
                 speakers |= 1 << i;
             }
         }
@@ -776,8 +779,8 @@ public final class BanisterWord {
 
         boolean allSo(Rails rails) {
             for (int i = 0; i < size; i++) {
-                int heard = rails.heardBy(climbers[i], steps[i]) >> sayings[i] & 1;
-                if (heard != heards[i]) {
+                Person climber = climbers[i];
+                if (climber != null && (rails.heardBy(climber, steps[i]) >> sayings[i] & 1) != heards[i]) {
                     return false;
                 }
             }

@@ -6,8 +6,10 @@ import java.lang.reflect.Modifier;
 import java.nio.charset.StandardCharsets;
 import java.nio.file.Files;
 import java.nio.file.Path;
+import java.util.List;
 import java.util.Set;
 import java.util.TreeSet;
+import java.util.regex.Matcher;
 import java.util.regex.Pattern;
 
 /** The class has the document's face and no other, and the source keeps to what can be looked up in it of LANGUAGE.md. */
@@ -20,6 +22,7 @@ public final class FaceTest {
     private static final String[] RULED_OUT = {"\\bthrow", "\\btry\\b", "\\bcatch\\b", "\\bsynchronized\\b",
             "\\bassert\\b", "\\bimport\\b", "\\bpackage\\b", "->", "::", "\\bstatic \\{", "\\bvar\\b", "@",
             "Exact\\(", "\\bSystem\\.(?!arraycopy)", "[^\\x00-\\x7f]"};
+    private static final Pattern METHOD = Pattern.compile("( {4}| {8})\\w.*\\) \\{");
 
     private static final Checks checks = new Checks();
 
@@ -28,6 +31,7 @@ public final class FaceTest {
         members();
         classesInside();
         source();
+        methodLengths();
         checks.end();
     }
 
@@ -64,13 +68,24 @@ public final class FaceTest {
     private static void classesInside() {
         Class<?>[] inside = BanisterWord.class.getDeclaredClasses();
         checks.holds("at most twelve classes", inside.length + 1 <= 12);
+        sizes(BanisterWord.class);
         for (Class<?> c : inside) {
             checks.holds(c + " is static", Modifier.isStatic(c.getModifiers()));
             checks.holds(c + " is not public", !Modifier.isPublic(c.getModifiers()));
-            for (Method m : c.getDeclaredMethods()) {
-                checks.holds(m + " has at most seven parameters", m.getParameterCount() <= 7);
-            }
+            sizes(c);
         }
+    }
+
+    private static void sizes(Class<?> c) {
+        for (Method m : c.getDeclaredMethods()) {
+            checks.holds(m + " has at most seven parameters", m.getParameterCount() <= 7);
+        }
+        int fields = 0;
+        for (Field f : c.getDeclaredFields()) {
+            fields += Modifier.isStatic(f.getModifiers()) ? 0 : 1;
+            checks.holds(f + " is final, if it is static", !Modifier.isStatic(f.getModifiers()) || Modifier.isFinal(f.getModifiers()));
+        }
+        checks.holds(c + " has at most twenty fields beside its constants", fields <= 20);
     }
 
     private static void source() throws IOException {
@@ -79,5 +94,23 @@ public final class FaceTest {
         for (String wrong : RULED_OUT) {
             checks.holds("the source has no " + wrong, !Pattern.compile(wrong).matcher(code).find());
         }
+    }
+
+    /** A method begins with a line that ends in ') {' and ends with a brace as far in as it began. */
+    private static void methodLengths() throws IOException {
+        List<String> lines = Files.readAllLines(SOURCE, StandardCharsets.ISO_8859_1);
+        int methods = 0;
+        for (int i = 0; i < lines.size(); i++) {
+            Matcher head = METHOD.matcher(lines.get(i));
+            if (head.matches()) {
+                int end = i;
+                while (!lines.get(end).equals(head.group(1) + "}")) {
+                    end++;
+                }
+                methods++;
+                checks.holds(lines.get(i).trim() + " has at most sixty lines", end - i < 60);
+            }
+        }
+        checks.holds("the methods were found", methods > METHODS.size());
     }
 }
